@@ -97,6 +97,11 @@ public final class AskingTest {
             due("12: down from " + d[0], x.near(0, d[0], false), d[1]);
         }
         due("12: the full one", x.near(1, 0, true) + x.near(1, 0, false), 0);
+        for (int n = 0; n < 4096; n += 15) {
+            due("12: the full one up", x.near(1, n, true), n);
+            due("12: the full one down", x.near(1, n, false), n);
+        }
+        due("12: from 1", x.near(1, 1, true), 1);
         due("12: the empty one up", x.near(2, LEAST, true), NONE);
         due("12: the empty one down", x.near(2, MOST, false), NONE);
         for (int s : NO_SETS) {

@@ -101,6 +101,10 @@ public final class BytesTest {
         runs.add(0, 532, 532);
         runs.add(0, 767, 768);
         bytesDue("17: runs of one and at the border", runs, 9, 4, 1, 4, 8, 18, 20, 20, 255, 255, 12, 1, 0);
+        PieceSets arrays = new PieceSets();
+        arrays.add(0, 0, 0);
+        arrays.add(0, 300, 300);
+        bytesDue("17: arrays", arrays, 0, 1, 0, 4, 1, 44);
         PieceSets map = comb(15, 32, 1);
         map.flip(0, 3840 + 248, 3840 + 255);
         int[] written = new int[33];
@@ -266,26 +270,98 @@ public final class BytesTest {
         }
         due("20: runs, 16 of them", runs.read(0), -100);
         PieceSets full = new PieceSets();
-        for (int p = 0; p < 6; p++) {
-            full.put(4 * p + 2);
-            for (int k = 0; k < 32; k++) {
-                full.put(85);
-            }
-        }
+        putBitmaps(full, 6);
         due("20: 198 bytes and one more", full.put(24), 199);
         due("20: too early an end", full.read(0), -299);
         due("20: 200 bytes", full.put(1), 200);
         due("20: too early an end of a full buffer", full.read(0), -300);
         due("20: full", full.put(0), FULL);
         full.clear();
-        for (int p = 0; p < 6; p++) {
-            full.put(4 * p + 2);
-            for (int k = 0; k < 32; k++) {
-                full.put(85);
-            }
-        }
+        putBitmaps(full, 6);
         due("20: six bitmaps", full.read(5), 6 * 128);
         due("20: every second number", full.contains(5, 0) - full.contains(5, 1) + full.contains(5, 1534), 2);
+    }
+
+    private static void allPieces() {
+        PieceSets x = new PieceSets();
+        for (int p = 0; p < 16; p++) {
+            x.put(4 * p);
+            x.put(1);
+            x.put(p);
+        }
+        x.put(60);
+        due("20: a byte too many behind all pieces", x.read(0), -148);
+        x.clear();
+        for (int p = 0; p < 16; p++) {
+            x.put(4 * p + 1);
+            x.put(1);
+            x.put(0);
+            x.put(255);
+        }
+        due("20: a full set", x.read(0), 4096);
+    }
+
+    /** Bytes that stood in the buffer before it was emptied count no longer. */
+    private static void bytesOfBefore() {
+        int[][] pieces = {{0, 1, 5}, {1, 1, 5, 9}, bitmap(2, 32, 85, 85, 85, 85, 85, 85, 85, 85, 85, 85)};
+        for (int[] bytes : pieces) {
+            for (int end = 1; end < bytes.length; end++) {
+                PieceSets x = with(bytes);
+                x.clear();
+                for (int i = 0; i < end; i++) {
+                    x.put(bytes[i]);
+                }
+                due("20: the end of " + end + " bytes", x.read(0), -100 - end);
+            }
+        }
+    }
+
+    /** Five bitmaps and an array, 197 bytes in all. */
+    private static PieceSets nearlyFull() {
+        PieceSets x = new PieceSets();
+        putBitmaps(x, 5);
+        x.put(20);
+        x.put(30);
+        for (int k = 0; k < 30; k++) {
+            x.put(2 * k);
+        }
+        return x;
+    }
+
+    private static void putBitmaps(PieceSets x, int many) {
+        for (int p = 0; p < many; p++) {
+            x.put(4 * p + 2);
+            for (int k = 0; k < 32; k++) {
+                x.put(85);
+            }
+        }
+    }
+
+    private static void endOfFullBuffer() {
+        PieceSets x = nearlyFull();
+        x.put(24);
+        x.put(1);
+        due("20: three bytes more", x.put(7), 200);
+        due("20: a full buffer", x.read(0), 5 * 128 + 31);
+        for (int kind = 0; kind < 3; kind++) {
+            PieceSets one = nearlyFull();
+            one.put(24 + kind);
+            one.put(2);
+            due("20: the last byte of all", one.put(9), 200);
+            due("20: a full buffer that ends too early", one.read(0), -300);
+        }
+        PieceSets cut = new PieceSets();
+        putBitmaps(cut, 5);
+        cut.put(20);
+        cut.put(29);
+        for (int k = 0; k < 29; k++) {
+            cut.put(2 * k);
+        }
+        cut.put(24);
+        cut.put(1);
+        due("20: all but one", cut.put(7), 199);
+        due("20: a piece begins with the last byte", cut.put(28), 200);
+        due("20: and has no more", cut.read(0), -300);
     }
 
     private static void conversionsOfRead() {
@@ -323,6 +399,9 @@ public final class BytesTest {
         promise20Read();
         errorPlaces();
         fullBuffer();
+        allPieces();
+        bytesOfBefore();
+        endOfFullBuffer();
         conversionsOfRead();
         writtenIsRead();
         CHECKS.end();

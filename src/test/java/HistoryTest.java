@@ -113,6 +113,18 @@ public final class HistoryTest {
             print = next(print, number);
         }
         due("26: converted 1 0 stands third", x.fingerprint(), print);
+        for (int n = 0; n < 4096; n += 63) {
+            PieceSets one = new PieceSets();
+            Model same = new Model();
+            one.add(n % 6, n, n);
+            same.add(n % 6, n, n);
+            due("26: " + n + " alone", one.fingerprint(), same.fingerprint());
+        }
+        PieceSets low = new PieceSets();
+        low.add(0, 64, 64);
+        Model slow = new Model();
+        slow.add(0, 64, 64);
+        due("26: 64 alone", low.fingerprint(), slow.fingerprint());
         PieceSets full = new PieceSets();
         Model model = new Model();
         for (int s = 0; s < 6; s++) {
