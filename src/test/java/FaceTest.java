@@ -61,7 +61,8 @@ public final class FaceTest {
             } else {
                 CHECKS.holds(field + " is private", Modifier.isPrivate(modifiers));
             }
-            CHECKS.holds(field + ": a static one is final", !Modifier.isStatic(modifiers) || Modifier.isFinal(modifiers));
+            boolean isFinal = !Modifier.isStatic(modifiers) || Modifier.isFinal(modifiers);
+            CHECKS.holds(field + ": a static one is final", isFinal);
         }
         CHECKS.holds("the constants are " + found, found.equals(Set.of("int BAD", "int FULL", "int NONE")));
         CHECKS.due("BAD", PieceSets.BAD, -1);

@@ -6,11 +6,17 @@ public final class RandomRunsTest {
         Integer.MIN_VALUE, Integer.MIN_VALUE + 1, -4096, -4095, -257, -256, -64, -1, 0, 1, 63, 64, 255, 256, 257,
         511, 512, 3839, 3840, 4031, 4032, 4094, 4095, 4096, 8191, 65536, Integer.MAX_VALUE - 1, Integer.MAX_VALUE};
 
+    /** What later calls answer is free. */
+    private static final int LIFE = 512;
+    /** More calls than any step makes, but for the bytes that passOn() puts. */
+    private static final int STEP = 60;
+
     private final Checks checks;
     private final Random random;
     private final String name;
-    private PieceSets sets = new PieceSets();
-    private Model model = new Model();
+    private final PieceSets sets = new PieceSets();
+    private final Model model = new Model();
+    private int calls = 0;
 
     private RandomRunsTest(Checks checks, int seed) {
         this.checks = checks;
@@ -19,6 +25,7 @@ public final class RandomRunsTest {
     }
 
     private void due(String call, long got, long want) {
+        calls++;
         checks.due(name + call, got, want);
     }
 
@@ -58,13 +65,15 @@ public final class RandomRunsTest {
             case 4 -> {
                 int seed = random.nextInt();
                 int many = small(302);
-                due("scatter " + s + " " + seed + " " + many, sets.scatter(s, seed, many), model.scatter(s, seed, many));
+                String call = "scatter " + s + " " + seed + " " + many;
+                due(call, sets.scatter(s, seed, many), model.scatter(s, seed, many));
             }
             case 5, 6 -> {
                 int op = random.nextInt(20) == 0 ? 4 * random.nextInt(2) - 1 + random.nextInt(2) : random.nextInt(4);
                 int t = set();
                 int u = set();
-                due("combine " + op + " " + s + " " + t + " " + u, sets.combine(op, s, t, u), model.combine(op, s, t, u));
+                String call = "combine " + op + " " + s + " " + t + " " + u;
+                due(call, sets.combine(op, s, t, u), model.combine(op, s, t, u));
             }
             default -> {
                 int by = random.nextInt(3) == 0 ? number() : random.nextInt(141) - 70;
@@ -111,7 +120,7 @@ public final class RandomRunsTest {
         int length = model.bytes(s);
         int spoilt = random.nextInt(2) == 0 ? -1 : random.nextInt(length + 1);
         int end = random.nextInt(4) == 0 ? random.nextInt(length + 1) : length;
-        for (int i = 0; i < end && i < 220; i++) {
+        for (int i = 0; i < end && i < 205 && calls < LIFE - STEP; i++) {
             int b = model.byteAt(s, i);
             if (i == spoilt) {
                 b = random.nextBoolean() ? small(256) : b + random.nextInt(7) - 3;
@@ -147,8 +156,8 @@ public final class RandomRunsTest {
         }
     }
 
-    private void go(int steps) {
-        for (int i = 0; i < steps; i++) {
+    private void go() {
+        while (calls <= LIFE - 2 * STEP) {
             int which = random.nextInt(20);
             if (which < 12) {
                 act();
@@ -162,12 +171,13 @@ public final class RandomRunsTest {
             ask();
             due("fingerprint", sets.fingerprint(), model.fingerprint());
         }
+        checks.holds(name + "the test itself makes " + calls + " calls", calls <= LIFE);
     }
 
     public static void main(String[] args) {
         Checks checks = new Checks();
-        for (int seed = 0; seed < 400; seed++) {
-            new RandomRunsTest(checks, seed).go(60);
+        for (int seed = 0; seed < 1200; seed++) {
+            new RandomRunsTest(checks, seed).go();
         }
         checks.end();
     }
