@@ -119,6 +119,11 @@ final class KindsSentences {
             run.due("add 0 2 2 = 1").piece(0, 0, 1, 31, 14, 30);
             run.anew().comb(0, 0, 15, 2).due("add 0 99 99 = 1").piece(0, 0, 0, 31, 16, 33);
             run.due("add 0 100 100 = 1").piece(0, 0, 2, 32, 16, 33);
+            // Also if the kind before was the other one that takes as many.
+            run.due("remove 0 100 100 = 1").piece(0, 0, 0, 31, 16, 33).conversions(0, 1, 0, 0, 1, 0);
+            run.anew().comb(0, 0, 32, 1).due("remove 0 62 62 = 1").piece(0, 0, 0, 31, 31, 33);
+            run.anew().due("add 0 0 2 = 3", "add 0 4 5 = 2").piece(0, 0, 1, 5, 2, 6);
+            run.due("remove 0 2 2 = 1").piece(0, 0, 0, 4, 2, 6).conversions(0, 0, 1, 0, 0, 0);
         });
     }
 

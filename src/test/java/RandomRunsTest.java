@@ -14,6 +14,8 @@ public final class RandomRunsTest {
     private final Checks checks;
     private final Random random;
     private final String name;
+    /** Most objects are asked behind every step; some act on and on, and are asked now and then. */
+    private final boolean busy;
     private final PieceSets sets = new PieceSets();
     private final Model model = new Model();
     private int calls = 0;
@@ -22,6 +24,7 @@ public final class RandomRunsTest {
         this.checks = checks;
         this.random = new Random(seed);
         this.name = "seed " + seed + ": ";
+        this.busy = seed % 6 == 0;
     }
 
     private void due(String call, long got, long want) {
@@ -156,20 +159,26 @@ public final class RandomRunsTest {
         }
     }
 
+    private void step() {
+        int which = random.nextInt(busy ? 60 : 20);
+        if (which < 3) {
+            passOn();
+        } else if (which < 6) {
+            makeUp();
+        } else if (which % 6 == 0) {
+            due("undo", sets.undo(), model.undo());
+        } else {
+            act();
+        }
+    }
+
     private void go() {
         while (calls <= LIFE - 2 * STEP) {
-            int which = random.nextInt(20);
-            if (which < 12) {
-                act();
-            } else if (which < 14) {
-                due("undo", sets.undo(), model.undo());
-            } else if (which < 17) {
-                passOn();
-            } else {
-                makeUp();
+            step();
+            if (!busy || random.nextInt(20) == 0) {
+                ask();
+                due("fingerprint", sets.fingerprint(), model.fingerprint());
             }
-            ask();
-            due("fingerprint", sets.fingerprint(), model.fingerprint());
         }
         checks.holds(name + "the test itself makes " + calls + " calls", calls <= LIFE);
     }

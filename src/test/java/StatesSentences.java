@@ -51,8 +51,49 @@ final class StatesSentences {
                 run.due("combine 1 0 0 1 = 4096");
             }
             run.due("met 1 1 = " + 16 * 510);
+            conversionsOfLife(allKinds(run.anew()));
+            meetingsOfLife(allKinds(run.anew()));
+            statesOfLife(run.anew());
         });
         doc.nothingDue("what later calls answer is free");
+    }
+
+    /** Every piece is an array in set 0, runs in set 1, a bitmap in set 2. */
+    private static Run allKinds(Run run) {
+        return run.due("scatter 0 7 300 = 289", "add 1 0 4095 = 4096", "scatter 2 7 300 = 289",
+            "scatter 2 8 300 = 556", "scatter 2 9 300 = 809");
+    }
+
+    private static void conversionsOfLife(Run run) {
+        int[] sizes = {289, 4096, 809};
+        int[] order = {0, 1, 2, 0, 2, 1};
+        run.due("combine 1 0 5 3 = 289");
+        for (int i = 1; i <= 480; i++) {
+            int s = order[i % 6];
+            run.due("combine 1 " + s + " 5 3 = " + sizes[s]);
+        }
+        // One more 0 2 from set 2 itself.
+        run.conversions(1280, 1296, 1280, 1280, 1280, 1280).due("undo = 4");
+        run.conversions(1280, 1296, 1264, 1280, 1280, 1280).due("undo = 3", "undo = 2", "undo = 1", "undo = 0");
+        run.conversions(1280, 1280, 1264, 1264, 1264, 1264).due("undo = NONE");
+    }
+
+    private static void meetingsOfLife(Run run) {
+        // As set 2 has the numbers of set 0, both in all are those of the lesser one.
+        int[] sizes = {289, 289, 289, 289, 4096, 809, 289, 809, 809};
+        for (int i = 0; i < 486; i++) {
+            run.due("combine 0 " + i % 9 / 3 + " " + i % 3 + " 3 = " + sizes[i % 9]);
+        }
+        run.meetings(864, 864, 864, 864, 864, 864, 864, 864, 864).due("undo = 4");
+        run.meetings(864, 864, 864, 864, 864, 864, 864, 864, 848);
+    }
+
+    private static void statesOfLife(Run run) {
+        run.each("add 0 % % = 1", 0, 2, 4, 6, 8);
+        for (int i = 0; i < 168; i++) {
+            run.due("add 1 " + 9 * i + " " + 9 * i + " = 1", "undo = 4", "add 2 " + 9 * i + " " + 9 * i + " = 1");
+        }
+        run.due("size 1 = 0", "size 2 = 168");
     }
 
     private static void history() {
@@ -107,6 +148,12 @@ final class StatesSentences {
         doc.test("(The buffer does not belong to a state.)", run -> {
             run.put(0, 1).due("add 0 9 9 = 1").put(5).due("undo = 0", "put 64 = 4", "clear = 4");
             run.put(0, 1, 5).due("read 0 = 1", "undo = 0", "size 0 = 0", "read 0 = 0", "clear = 0");
+            for (String act : ACTS) {
+                if (!act.startsWith("read")) {
+                    run.anew().put(0, 1).due(act).put(5).due("undo = 0", "put 4 = 4", "put 0 = 5");
+                    run.due("read 1 = -104", "clear = 5");
+                }
+            }
         });
     }
 
